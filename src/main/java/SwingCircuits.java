@@ -284,7 +284,7 @@ public final class SwingCircuits {
     }
 
     public int fault(int cell, int i) {
-        int found = faults(cell);
+        int found = isCell(cell) ? findFaults(cell) : 0;
         return i >= 0 && i < found ? faultsFound[i] : NONE;
     }
 
@@ -445,27 +445,19 @@ public final class SwingCircuits {
         int found = 0;
         for (int wrong = 0; wrong < circuit.cells; wrong++) {
             for (int what = RISE; what <= FALL; what++) {
+                int[] rates = circuit.ratesOf(what);
+                int told = rates[wrong];
                 for (int i = 0; i < stocked; i++) {
-                    if (isExplainedBy(wrong, what, stock[i], cell)) {
+                    rates[wrong] = stock[i];
+                    if (stock[i] != told && isMeasuredSo(cell)) {
                         faultsFound[found] = wrong * 1000 + what * 100 + stock[i];
                         found++;
                     }
                 }
+                rates[wrong] = told;
             }
         }
         return found;
-    }
-
-    private boolean isExplainedBy(int wrong, int what, int v, int cell) {
-        int[] rates = circuit.ratesOf(what);
-        int told = rates[wrong];
-        if (v == told) {
-            return false;
-        }
-        rates[wrong] = v;
-        boolean explained = isMeasuredSo(cell);
-        rates[wrong] = told;
-        return explained;
     }
 
     /** Whether the circuit, as its rates are at the moment, swings from RESET on as was MEASURED. */
@@ -503,8 +495,8 @@ public final class SwingCircuits {
 
     /** The greatest common divisor; 1 of two zeros, so that it always divides. */
     private static long commonOf(long one, long other) {
-        long a = Math.abs(one);
-        long b = Math.abs(other);
+        long a = one < 0 ? -one : one;
+        long b = other < 0 ? -other : other;
         // Euclid needs at most some 90 rounds for longs.
         for (int i = 0; i < 200 && b != 0; i++) {
             long rest = a % b;
@@ -701,7 +693,7 @@ public final class SwingCircuits {
         }
 
         private static boolean isTooLong(long num, long den) {
-            return Math.abs(num) > MOST_TERM || den > MOST_TERM;
+            return num > MOST_TERM || num < -MOST_TERM || den > MOST_TERM;
         }
 
         long packedEvent() {

@@ -476,10 +476,13 @@ public final class PromiseTest {
         x.link(0, 0, 1, 0, 1, 0);
         due("12: at its top for ever", x.ring(300), 1);
         CHECKS.dueAll("13: no time goes", ringNow(x), 1, 1, 0, 1, 1, 0, 0, 0);
+        due("12: not in one", x.ring(1), NO_RING);
         due("7: run(500)", x.run(500), 500);
         due("8: TIME", x.count(3), 6);
         due("8: TIME by", x.count(4), 5);
         due("9: tops", x.of(0, 3), 500);
+        due("12: now in one", x.ring(1), 1);
+        CHECKS.dueAll("13: no lead", ringNow(x), 0, 1, 0, 1, 1, 0, 0, 0);
     }
 
     private static void ringsNotFound() {
@@ -500,6 +503,14 @@ public final class PromiseTest {
         due("8: not spent yet", x.count(5), 0);
         due("7: run(500)", x.run(500), 6);
         due("8: spent", x.count(5), 1);
+        SwingCircuits y = new SwingCircuits();
+        y.cell(0, 1, 1, 1);
+        y.link(0, 0, 9, 0, 0, 0);
+        y.link(0, 0, 8, 0, 0, 0);
+        due("12: counts are the same 72 tops on", y.ring(300), 144);
+        y.link(0, 0, 7, 0, 0, 0);
+        due("12: now not before 504", y.ring(300), NO_RING);
+        CHECKS.dueAll("13: the latest found", ringNow(y), 0, 144, 144, 1, 72, 0, 0, 0);
     }
 
     // Promise 14
