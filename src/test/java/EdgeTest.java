@@ -28,6 +28,16 @@ public final class EdgeTest {
                 .link(2, 0, 2, 0, 2, 1).link(2, 0, 2, 1, 0, -9).link(1, 0, 1, 0, 2, 0).link(1, 1, 1, 2, 1, 0).goes(14);
         new EdgeTest("a numerator of a LEVEL of 1000000")
                 .cell(-40, -24, 49, 34).cell(16, 30, 48, 41).cell(3, 32, 51, 32).goes(431);
+        new EdgeTest("a numerator of a LEVEL of -1000000")
+                .cell(-50, 50, 43, 55).cell(-50, 50, 38, 49).goes(13);
+        new EdgeTest("a numerator of a LEVEL of -1000000, kicked before")
+                .cell(-50, 50, 41, 51).cell(-50, 50, 41, 1).cell(-50, 50, 58, 13).link(0, 1, 3, 2, 0, 13).goes(5);
+        new EdgeTest("a numerator of a LEVEL of 1000001")
+                .cell(-15, 4, 46, 57).cell(17, 19, 55, 58).cell(15, 35, 56, 41).goes(27);
+        new EdgeTest("a numerator of a LEVEL of -1000001")
+                .cell(-33, -13, 15, 37).cell(1, 25, 51, 53).goes(60);
+        new EdgeTest("spent behind the second top of cell 0")
+                .cell(0, 10, 57, 35).cell(0, 11, 47, 52).goes(5);
         new EdgeTest("the numerator of TIME alone")
                 .cell(6, 32, 41, 12).cell(-17, 9, 43, 22).link(1, 1, 1, 0, 2, 0).goes(3);
         new EdgeTest("the denominator of TIME alone")
@@ -71,5 +81,11 @@ public final class EdgeTest {
         due("reset()", real.reset(), model.reset());
         due("run(500)", real.run(500), events);
         due("count(5)", real.count(5), 1);
+        model.run(500);
+        for (int i = 0; i <= events; i++) {
+            for (int what = 0; what <= 3; what++) {
+                due("event(" + i + ", " + what + ")", real.event(i, what), model.event(i, what));
+            }
+        }
     }
 }

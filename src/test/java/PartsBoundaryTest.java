@@ -459,7 +459,9 @@ public final class PartsBoundaryTest {
         x.measure(184, 399);
         due("19: spent only behind the second top", x.faults(0), 2);
         due("20: rise of cell 1", x.fault(0, 0), 1047);
+        due("20: fall of cell 1", x.fault(0, 1), 1147);
         x.measure(184, 399);
-        due("19: spent ahead of the third", x.fault(0, 0) == 1047 ? 1 : 0, 0);
+        due("19: with that rise spent ahead of the third", x.faults(0), 1);
+        due("20: but not with that fall", x.fault(0, 0), 1147);
     }
 }

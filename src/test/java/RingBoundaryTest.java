@@ -20,6 +20,7 @@ public final class RingBoundaryTest {
         spentRingKeepsTheLatest();
         lookingAheadChangesNothing();
         stateHasEverything();
+        countsOfEight();
         timeIsNoPartOfTheState();
         topsOnlyInTheRing();
         ringedNotThere();
@@ -210,6 +211,23 @@ public final class RingBoundaryTest {
         w.cell(0, 4, 1, 1);
         due("12: but for cell 1 at 3, filling or not", w.ring(9), NO_RING);
         due("12: round", w.ring(10), 10);
+    }
+
+    /** The greatest count of a LINK is no more of what stands beside it: of another LINK, or of a CELL. */
+    private static void countsOfEight() {
+        SwingCircuits x = swinging();
+        x.link(0, 0, 2, 0, 0, 0);
+        x.link(0, 0, 9, 0, 0, 0);
+        due("12: 0 and 8 are not 1 and 0", x.ring(300), 36);
+        dueRinged("13: 18 times round", x, 0, 36, 90, 1, 18, 0, 0, 0);
+        SwingCircuits y = new SwingCircuits();
+        y.cell(0, 1, 1, 1);
+        y.cell(0, 1, 1, 1);
+        y.cell(0, 1, 1, 1);
+        y.cell(0, 4, 1, 1);
+        y.link(0, 0, 9, 0, 0, 0);
+        due("12: emptying and 8 are not filling and 0", y.ring(300), 234);
+        dueRinged("13: nine times round of cell 3", y, 0, 234, 72, 1, 36, 36, 36, 9);
     }
 
     private static void timeIsNoPartOfTheState() {

@@ -15,6 +15,7 @@ public final class RunBoundaryTest {
         eventsWithoutTime();
         allCallsOfAnObject();
         timeNumeratorAtItsBound();
+        timeNumeratorAtItsBoundIsKept();
         timeNumeratorOneOver();
         timeDenominatorAtItsBound();
         levelNumeratorAtItsBound();
@@ -140,6 +141,23 @@ public final class RunBoundaryTest {
         due("7: TIME stays", x.count(3), MILLION);
     }
 
+    /** Among the first 500 EVENTS such a TIME needs a denominator above 1. */
+    private static void timeNumeratorAtItsBoundIsKept() {
+        SwingCircuits x = new SwingCircuits();
+        x.cell(-47, -19, 23, 27);
+        x.cell(-49, -25, 27, 9);
+        x.link(1, 1, 1, 1, 1, 0);
+        x.link(0, 1, 2, 0, 1, 0);
+        x.link(0, 0, 2, 1, 1, 0);
+        x.link(1, 1, 1, 1, 1, 0);
+        due("7: run(500)", x.run(500), 38);
+        int found = 0;
+        for (int i = 0; i < 38; i++) {
+            found += x.event(i, 2) == MILLION ? 1 : 0;
+        }
+        due("11: an event whose TIME is 1000000 by something", found > 0 ? 1 : 0, 1);
+    }
+
     /** Beat 101/2460: 19802 EVENTS would be 1000001/2460. */
     private static void timeNumeratorOneOver() {
         SwingCircuits x = new SwingCircuits();
@@ -165,6 +183,7 @@ public final class RunBoundaryTest {
         due("7: run(13)", x.run(13), 13);
         due("7: TIME", x.count(3), 859103);
         due("7: by its bound", x.count(4), MILLION);
+        dueEvent("11: the event then", x, 12, 0, 0, 859103, MILLION);
         due("7: not spent", x.count(5), 0);
         due("7: run(500)", x.run(500), 2);
         due("7: spent", x.count(5), 1);
