@@ -200,7 +200,7 @@ public final class SwingCircuits {
     }
 
     public int event(int i, int what) {
-        if (i < 0 || i >= happened || i >= MOST_KEPT) {
+        if (!isKept(i) || i >= happened) {
             return NONE;
         }
         switch (what) {
@@ -342,8 +342,13 @@ public final class SwingCircuits {
         }
     }
 
+    /** Whether the EVENT of this number has a place; the lower end is for counts that went round an int. */
+    private static boolean isKept(int i) {
+        return i >= 0 && i < MOST_KEPT;
+    }
+
     private void noteEvent() {
-        if (happened < MOST_KEPT) {
+        if (isKept(happened)) {
             kept[happened] = now.packedEvent();
         }
         happened++;
